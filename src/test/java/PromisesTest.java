@@ -1,11 +1,5 @@
 /** Promise by promise: ordinary inputs, the document's edges, wrong inputs; all answers worked out by hand. */
-public final class PromisesTest {
-    private static final int NONE = SliceDrift.NONE, UNKNOWN = SliceDrift.UNKNOWN, OUTSIDE = SliceDrift.OUTSIDE,
-        STATE = SliceDrift.STATE, ROOM = SliceDrift.ROOM;
-    private static final long THROWS = Check.THROWS;
-    private static final int LEAST_INT = Integer.MIN_VALUE, MOST_INT = Integer.MAX_VALUE;
-    private static final Check CHECK = new Check();
-
+public final class PromisesTest extends Sentences {
     public static void main(String[] args) {
         promise1();
         promise2();
@@ -30,35 +24,6 @@ public final class PromisesTest {
         promise18();
         promise19();
         CHECK.end();
-    }
-
-    private static void due(String what, long want, Check.Call call) {
-        CHECK.due(what, want, call);
-    }
-
-    /** Both parts of a fraction. */
-    private interface Parts {
-        long part(int part);
-    }
-
-    private static void fraction(String what, long above, long below, Parts parts) {
-        due(what + " above", above, () -> parts.part(0));
-        due(what + " below", below, () -> parts.part(1));
-    }
-
-    /** A row with its values, NONE or left out where it has none. */
-    private static void add(SliceDrift x, int time, boolean hit, int... values) {
-        int row = x.row(time, hit);
-        for (int column = 0; column < values.length; column++) {
-            x.put(row, column, values[column]);
-        }
-    }
-
-    private static void listed(SliceDrift x, int i, int... want) {
-        for (int what = 0; what < want.length; what++) {
-            int w = what;
-            due("slice " + i + ", " + what, want[what], () -> x.slice(i, w));
-        }
     }
 
     private static void promise1() {
