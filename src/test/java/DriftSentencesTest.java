@@ -1,3 +1,6 @@
+import java.math.BigInteger;
+import java.util.Arrays;
+
 /** Section 3 of the document and promises 10 to 16: each sentence that names a boundary has a test of its own. */
 public final class DriftSentencesTest extends Sentences {
     /** A call that is given two windows, from a to b and from b to c. */
@@ -72,7 +75,7 @@ public final class DriftSentencesTest extends Sentences {
 
     private static int[] many(int times, int value) {
         int[] values = new int[times];
-        java.util.Arrays.fill(values, value);
+        Arrays.fill(values, value);
         return values;
     }
 
@@ -349,6 +352,34 @@ public final class DriftSentencesTest extends Sentences {
             SliceDrift y = two(many(first, 9), many(20 - first, 0));
             fraction("the highest " + first, 1, 1, p -> y.odds(0, 0, 1, 2, p));
         }
+        // the highest have the least rise: every way counts; the lowest have the greatest
+        for (int kinds = 2; kinds <= 10; kinds++) {
+            for (int first = 1; first < 20; first++) {
+                SliceDrift x = new SliceDrift();
+                SliceDrift y = new SliceDrift();
+                for (int n = 0; n < 20; n++) {
+                    add(x, n < first ? 0 : 1, false, (19 - n) * kinds / 20);
+                    add(y, n < first ? 0 : 1, false, n * kinds / 20);
+                }
+                fraction("falling, " + kinds + ", " + first, 1, 1, p -> x.odds(0, 0, 1, 2, p));
+                long lowest = waysToTakeTheLowest(kinds, first);
+                long divisor = BigInteger.valueOf(lowest).gcd(BigInteger.valueOf(choose(20, first))).longValue();
+                fraction("rising, " + kinds + ", " + first, lowest / divisor, choose(20, first) / divisor,
+                    p -> y.odds(0, 0, 1, 2, p));
+            }
+        }
+    }
+
+    /** Of the like ones at the border any will do. */
+    private static long waysToTakeTheLowest(int kinds, int first) {
+        int border = (first - 1) * kinds / 20;
+        int below = 0;
+        int like = 0;
+        for (int n = 0; n < 20; n++) {
+            below += n * kinds / 20 < border ? 1 : 0;
+            like += n * kinds / 20 == border ? 1 : 0;
+        }
+        return choose(like, first - below);
     }
 
     private static long choose(int of, int chosen) {
